@@ -31,7 +31,7 @@ final class Check {
         complain(call + " gave " + got + ", due is " + want.getName());
     }
 
-    /** As dueThrow, and the object is the same behind the call, with what undo would bring back. */
+    /** As dueThrow, and the object is the same behind the call: the digest tells of all but the saved states. */
     void dueThrowUnchanged(String call, AccentModems x, Class<? extends RuntimeException> want, LongSupplier called) {
         long before = x.digest();
         dueThrow(call, want, called);
