@@ -515,7 +515,7 @@ public final class AccentModems {
                 int error = tone.arriving(amplitude, drawNoise(tone)) - tone.expected(amplitude);
                 tone.improve(error, amplitude, settings[PATIENCE]);
                 tone.pass(amplitude, amplitude);
-                tone.knowSigns();
+                tone.knowSignBefore();
                 lesson.note(i, error);
             }
             lesson.beats++;
@@ -712,8 +712,7 @@ public final class AccentModems {
         }
 
         /** In a lesson the modem that hears learns of the sign before, too, what it really was. */
-        void knowSigns() {
-            taken = last;
+        void knowSignBefore() {
             takenBefore = before;
         }
 

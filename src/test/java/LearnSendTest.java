@@ -147,6 +147,15 @@ public final class LearnSendTest {
         // A is -128, 128, 128, -128, -128, 128
         accent("held", x, 0, 0, 8, 128, 128, 126, 8, 9);
         x = new AccentModems();
+        x.set(0, 64);
+        for (int by : new int[] {300, 300, 35}) {
+            x.insult(0, 0, by);
+            x.insult(0, 1, by);
+        }
+        x.learn(0, 1);
+        // 635 * 128 is less than 10 * 128 * 64
+        accent("slow", x, 0, 0, 55, 73);
+        x = new AccentModems();
         x.set(0, 1);
         x.learn(0, 2);
         for (int tone = 0; tone < 4; tone++) {

@@ -26,6 +26,7 @@ public final class TextTest {
         test.sayPutsBits();
         test.sayAllOrNone();
         test.undoRestores();
+        test.undoRestoresWhatIsCounted();
         test.undoKeepsTheBuffer();
         test.sixStatesAreSaved();
         test.check.end();
@@ -104,6 +105,13 @@ public final class TextTest {
         x.clearBuffer();
         Check.append(x, "a:" + "0".repeat(57) + ":");
         check.due("the last of 60 is wrong", x.firstError(), 59);
+        x.clearBuffer();
+        check.due("what was cleared is not read", x.firstError(), 0);
+        Check.append(x, "a:");
+        check.due("nor behind a new beginning", x.firstError(), 2);
+        check.dueThrowUnchanged("nor by say", x, ARGUMENT, () -> x.say());
+        x.append('5');
+        check.due("nor put on its way", x.say(), 4);
     }
 
     private void bits(String when, AccentModems x, int way, String due) {
@@ -196,6 +204,33 @@ public final class TextTest {
             case 5: x.send(1, 5); break;
             case 6: x.forget(1); break;
             default: x.say(); break;
+        }
+    }
+
+    private void undoRestoresWhatIsCounted() {
+        for (int way = 0; way < 2; way++) {
+            AccentModems x = new AccentModems();
+            x.set(2, 1);
+            x.carry(way, 3, 2);
+            x.insult(way, 3, 300);
+            Check.say(x, way == 0 ? "a:1" : "b:1");
+            long before = x.digest();
+            check.due("send", x.send(way, 1), 1);
+            int[] sent = {1, 1, 1};
+            int[] what = {6, 7, 8};
+            for (int i = 0; i < 3; i++) {
+                check.due("accent " + what[i], x.accent(way, 3, what[i]), sent[i]);
+            }
+            check.due("wrong bits", x.count(6 + way), 1);
+            x.undo();
+            for (int i = 0; i < 3; i++) {
+                check.due("undone: accent " + what[i], x.accent(way, 3, what[i]), 0);
+            }
+            check.due("undone: wrong bits", x.count(6 + way), 0);
+            check.due("undone: bits that came", x.count(4 + way), 0);
+            check.due("undone: had", x.had(way), 0);
+            check.due("undone: shy tones", x.count(10), 0);
+            check.due("undone: all", x.digest(), before);
         }
     }
 

@@ -402,6 +402,25 @@ public final class WouldBeTest {
         x.clearBuffer();
         Check.append(x, "~".repeat(60));
         check.due("digest with a full buffer", x.digest(), digestOf(x, "~".repeat(60)));
+        theBeatsOfTheDigest();
+    }
+
+    private void theBeatsOfTheDigest() {
+        AccentModems x = new AccentModems();
+        x.carry(0, 0, 1);
+        Check.say(x, "a:fffff");
+        check.due("bits that would wait behind 4, 5 and 6 beats",
+                10000 * x.ifSent(0, 4, 2) + 100 * x.ifSent(0, 5, 2) + x.ifSent(0, 6, 2), 161514);
+        check.due("digest with ifSent of 5 beats", x.digest(), digestOf(x, ""));
+        int told = 0;
+        for (int i = 0; i < 40; i++) {
+            AccentModems y = lessonWith(i);
+            check.due("digest with ifLearned of 12 beats", y.digest(), digestOf(y, ""));
+            int bits = y.ifLearned(0, 12);
+            told |= bits != y.ifLearned(0, 11) ? 1 : 0;
+            told |= bits != y.ifLearned(0, 13) ? 2 : 0;
+        }
+        check.due("11 and 13 beats would tell something else", told, 3);
     }
 
     private void nothingIsChanged() {
