@@ -1,6 +1,17 @@
+import java.util.function.Supplier;
+
 /** Objects in the middle of their work, for tests that ask whether something changes. */
-final class Busy {
-    private Busy() {
+enum Busy {
+    FRESH(AccentModems::new),
+    BUSY(Busy::busy),
+    FEW(Busy::fewSaved),
+    FULL(Busy::full),
+    TIRED(Busy::tired);
+
+    final Supplier<AccentModems> recipe;
+
+    Busy(Supplier<AccentModems> recipe) {
+        this.recipe = recipe;
     }
 
     /** Both ways have learned, have sent with wrong bits, and have bits and insults waiting; the buffer is in use. */
@@ -22,6 +33,31 @@ final class Busy {
         x.insult(0, 5, -40);
         x.insult(1, 2, 7);
         Check.append(x, "a:7;b");
+        return x;
+    }
+
+    /** As busy, but with three saved states, so that one more would be counted; an accent has become shy. */
+    static AccentModems fewSaved() {
+        AccentModems x = busy();
+        for (int i = 0; i < 5; i++) {
+            x.undo();
+        }
+        x.set(2, 1);
+        x.send(0, 1);
+        return x;
+    }
+
+    /** 256 bits wait on each way, the buffer has 60 characters, and six states are saved. */
+    static AccentModems full() {
+        AccentModems x = new AccentModems();
+        Check.say(x, "a:" + "9c".repeat(29));
+        Check.say(x, "b:" + "3a".repeat(29));
+        Check.say(x, "a:123456;b:fedcba");
+        x.carry(0, 2, 3);
+        x.carry(1, 5, 4);
+        x.insult(0, 2, 300);
+        x.insult(1, 1, -300);
+        Check.append(x, "a:" + "5".repeat(58));
         return x;
     }
 

@@ -1,7 +1,14 @@
+import java.util.EnumMap;
+import java.util.List;
+import java.util.Map;
 import java.util.function.LongSupplier;
+import java.util.function.Supplier;
+import java.util.function.ToLongFunction;
 
 /** Counts and prints the calls of a test whose answers are not as due. */
 final class Check {
+    private static final Map<Busy, List<Long>> TOLD = new EnumMap<>(Busy.class);
+
     private int rows;
     private int wrong;
 
@@ -36,6 +43,38 @@ final class Check {
         long before = x.digest();
         dueThrow(call, want, called);
         due("digest behind " + call, x.digest(), before);
+    }
+
+    /** As dueThrow, and all that can be told is as if the call had not been made, the saved states, too. */
+    void dueRefused(String call, Class<? extends RuntimeException> want, Busy when, ToLongFunction<AccentModems> called) {
+        dueRefused(call + " when " + when, want, when.recipe, TOLD.computeIfAbsent(when, b -> Told.by(b.recipe)), called);
+    }
+
+    void dueRefused(String call, Class<? extends RuntimeException> want, Supplier<AccentModems> recipe,
+            ToLongFunction<AccentModems> called) {
+        dueRefused(call, want, recipe, Told.by(recipe), called);
+    }
+
+    private void dueRefused(String call, Class<? extends RuntimeException> want, Supplier<AccentModems> recipe,
+            List<Long> before, ToLongFunction<AccentModems> called) {
+        AccentModems x = recipe.get();
+        dueThrow(call, want, () -> called.applyAsLong(x));
+        dueSame("all behind " + call, before, Told.by(() -> {
+            AccentModems y = recipe.get();
+            Told.answer(() -> called.applyAsLong(y));
+            return y;
+        }));
+    }
+
+    void dueSame(String what, List<Long> want, List<Long> got) {
+        rows++;
+        if (!want.equals(got)) {
+            int place = 0;
+            while (place < want.size() && place < got.size() && want.get(place).equals(got.get(place))) {
+                place++;
+            }
+            complain(what + " is another from the number " + place + " on");
+        }
     }
 
     void complain(String what) {

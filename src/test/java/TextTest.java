@@ -115,8 +115,9 @@ public final class TextTest {
     }
 
     private void bits(String when, AccentModems x, int way, String due) {
-        check.due(when + ": bits on the way " + way, x.count(2 + way), due.length());
-        for (int i = 0; i < due.length() && i < x.count(2 + way); i++) {
+        int size = x.count(2 + way);
+        check.due(when + ": bits on the way " + way, size, due.length());
+        for (int i = 0; i < due.length() && i < size; i++) {
             check.due(when + ": waits(" + way + ", " + i + ")", x.waits(way, i), due.charAt(i) - '0');
         }
     }

@@ -1,3 +1,5 @@
+import java.util.function.Supplier;
+
 /** Promises 20 to 27: what is sure, what would be, the share of right bits, and the digest. */
 public final class WouldBeTest {
     private static final Class<IndexOutOfBoundsException> INDEX = IndexOutOfBoundsException.class;
@@ -323,99 +325,76 @@ public final class WouldBeTest {
         x.insult(0, 0, 300);
         x.send(0, 1);
         check.dueDouble("none is right", x.rightShare(0), 0.0);
-        check.due("bits of 0.0 in the digest", x.digest(), digestOf(x, ""));
         x.send(0, 1);
         check.dueDouble("one of 2", x.rightShare(0), 0.5);
         x.send(0, 1);
         check.dueDouble("2 of 3", x.rightShare(0), 2.0 / 3.0);
-        check.due("bits of 2 thirds in the digest", x.digest(), digestOf(x, ""));
         x.send(0, 4);
         check.dueDouble("6 of 7", x.rightShare(0), 6.0 / 7.0);
         check.dueDouble("the other way", x.rightShare(1), 1.0);
         x.undo();
         check.dueDouble("undone", x.rightShare(0), 2.0 / 3.0);
-        // 4 wrong bits of 4, then 1 wrong one of 401
-        AccentModems y = new AccentModems();
-        y.carry(1, 0, 1);
-        y.set(2, 50);
-        for (int i = 1; i <= 20; i++) {
-            y.insult(1, 0, 300);
-            y.send(1, i);
-            long came = y.count(5);
-            check.dueDouble("many shares", y.rightShare(1), (double) (came - i) / came);
-            check.due("bits of a share in the digest", y.digest(), digestOf(y, ""));
+        for (int i = 0; i <= 20; i++) {
+            int beats = i;
+            Supplier<AccentModems> made = () -> sharesOf(beats);
+            long came = made.get().count(5);
+            check.dueDouble("many shares", made.get().rightShare(1), came == 0 ? 1.0 : (double) (came - i) / came);
+            check.due("bits of a share in the digest", made.get().digest(), Digest.of(made, ""));
         }
     }
 
-    private static long mix(long hash, long v) {
-        return 31 * hash + v;
+    /** A wrong bit for each sending; the first one is of one beat, the second one of 2, and so on. */
+    private static AccentModems sharesOf(int sendings) {
+        AccentModems x = new AccentModems();
+        x.carry(1, 0, 1);
+        x.set(2, 50);
+        for (int i = 1; i <= sendings; i++) {
+            x.insult(1, 0, 300);
+            x.send(1, i);
+        }
+        return x;
     }
 
-    /** The digest put together from the other answers, as the document lists them. */
-    private static long digestOf(AccentModems x, String buffer) {
-        long hash = 2417;
-        for (int what = 0; what <= 12; what++) {
-            hash = mix(hash, x.count(what));
-        }
-        for (int setting = 0; setting <= 2; setting++) {
-            hash = mix(hash, x.setting(setting));
-        }
-        for (int way = 0; way < 2; way++) {
-            for (int tone = 0; tone < 8; tone++) {
-                for (int what = 0; what <= 6; what++) {
-                    hash = mix(hash, x.street(way, tone, what));
-                }
-                for (int what = 0; what <= 10; what++) {
-                    hash = mix(hash, x.accent(way, tone, what));
-                }
-                hash = mix(hash, x.sure(way, tone));
-                hash = mix(hash, x.hurts(way, tone));
-            }
-            for (int place = 0; place < x.count(2 + way); place++) {
-                hash = mix(hash, x.waits(way, place));
-            }
-            hash = mix(hash, x.had(way));
-            for (int what = 0; what <= 2; what++) {
-                hash = mix(hash, x.ifSent(way, 5, what));
-            }
-            hash = mix(hash, x.ifLearned(way, 12));
-            hash = mix(hash, x.beatsFor(way));
-            hash = mix(hash, x.bestLesson(way));
-            hash = mix(hash, Double.doubleToLongBits(x.rightShare(way)));
-        }
-        hash = mix(hash, buffer.length());
-        for (char c : buffer.toCharArray()) {
-            hash = mix(hash, c);
-        }
-        return hash;
+    private static AccentModems later() {
+        AccentModems x = Busy.busy();
+        x.digest();
+        x.send(0, 30);
+        x.learn(1, 30);
+        return x;
     }
 
     private void theDigest() {
-        AccentModems x = new AccentModems();
-        check.due("digest of a new object", x.digest(), digestOf(x, ""));
-        x = Busy.busy();
-        check.due("digest of a busy object", x.digest(), digestOf(x, "a:7;b"));
-        check.due("digest again", x.digest(), digestOf(x, "a:7;b"));
-        x.send(0, 30);
-        x.learn(1, 30);
-        check.due("digest later", x.digest(), digestOf(x, "a:7;b"));
-        x.clearBuffer();
-        Check.append(x, "~".repeat(60));
-        check.due("digest with a full buffer", x.digest(), digestOf(x, "~".repeat(60)));
+        check.due("digest of a new object", new AccentModems().digest(), Digest.of(AccentModems::new, ""));
+        AccentModems x = Busy.busy();
+        check.due("digest of a busy object", x.digest(), Digest.of(Busy::busy, "a:7;b"));
+        check.due("digest again", x.digest(), Digest.of(Busy::busy, "a:7;b"));
+        check.due("digest later", later().digest(), Digest.of(WouldBeTest::later, "a:7;b"));
+        Supplier<AccentModems> full = () -> {
+            AccentModems y = later();
+            y.clearBuffer();
+            Check.append(y, "~".repeat(60));
+            return y;
+        };
+        check.due("digest with a full buffer", full.get().digest(), Digest.of(full, "~".repeat(60)));
         theBeatsOfTheDigest();
     }
 
     private void theBeatsOfTheDigest() {
-        AccentModems x = new AccentModems();
-        x.carry(0, 0, 1);
-        Check.say(x, "a:fffff");
+        Supplier<AccentModems> slow = () -> {
+            AccentModems x = new AccentModems();
+            x.carry(0, 0, 1);
+            Check.say(x, "a:fffff");
+            return x;
+        };
+        AccentModems x = slow.get();
         check.due("bits that would wait behind 4, 5 and 6 beats",
                 10000 * x.ifSent(0, 4, 2) + 100 * x.ifSent(0, 5, 2) + x.ifSent(0, 6, 2), 161514);
-        check.due("digest with ifSent of 5 beats", x.digest(), digestOf(x, ""));
+        check.due("digest with ifSent of 5 beats", x.digest(), Digest.of(slow, ""));
         int told = 0;
         for (int i = 0; i < 40; i++) {
+            int lesson = i;
             AccentModems y = lessonWith(i);
-            check.due("digest with ifLearned of 12 beats", y.digest(), digestOf(y, ""));
+            check.due("digest with ifLearned of 12 beats", y.digest(), Digest.of(() -> lessonWith(lesson), ""));
             int bits = y.ifLearned(0, 12);
             told |= bits != y.ifLearned(0, 11) ? 1 : 0;
             told |= bits != y.ifLearned(0, 13) ? 2 : 0;
@@ -424,14 +403,15 @@ public final class WouldBeTest {
     }
 
     private void nothingIsChanged() {
-        AccentModems x = Busy.busy();
-        int saved = x.count(12);
-        long before = digestOf(x, "a:7;b");
-        for (int i = 0; i < 3; i++) {
-            x.digest();
-            check.due("what would be changes nothing", digestOf(x, "a:7;b"), before);
-        }
-        check.due("and is not undoable", x.count(12), saved);
+        Supplier<AccentModems> asked = () -> {
+            AccentModems x = Busy.busy();
+            for (int i = 0; i < 3; i++) {
+                x.digest();
+            }
+            return x;
+        };
+        check.dueSame("all behind what would be", Told.by(Busy::busy), Told.by(asked));
+        check.due("and it is not undoable", asked.get().count(12), Busy.busy().count(12));
     }
 
     private void wrongArguments() {
