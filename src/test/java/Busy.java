@@ -36,14 +36,16 @@ enum Busy {
         return x;
     }
 
-    /** As busy, but with three saved states, so that one more would be counted; an accent has become shy. */
+    /** As busy, but with four saved states, so that one more would be counted; the next wrong sign makes a tone shy. */
     static AccentModems fewSaved() {
         AccentModems x = busy();
-        for (int i = 0; i < 5; i++) {
+        for (int i = 0; i < 6; i++) {
             x.undo();
         }
         x.set(2, 1);
         x.send(0, 1);
+        x.insult(0, 6, 300);
+        x.insult(1, 5, -300);
         return x;
     }
 

@@ -46,8 +46,10 @@ final class Check {
     }
 
     /** As dueThrow, and all that can be told is as if the call had not been made, the saved states, too. */
-    void dueRefused(String call, Class<? extends RuntimeException> want, Busy when, ToLongFunction<AccentModems> called) {
-        dueRefused(call + " when " + when, want, when.recipe, TOLD.computeIfAbsent(when, b -> Told.by(b.recipe)), called);
+    void dueRefused(String call, Class<? extends RuntimeException> want, Busy when,
+            ToLongFunction<AccentModems> called) {
+        List<Long> before = TOLD.computeIfAbsent(when, b -> Told.by(b.recipe));
+        dueRefused(call + " when " + when, want, when.recipe, before, called);
     }
 
     void dueRefused(String call, Class<? extends RuntimeException> want, Supplier<AccentModems> recipe,

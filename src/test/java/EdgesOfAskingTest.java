@@ -12,6 +12,7 @@ public final class EdgesOfAskingTest {
         test.sureWhereTheNoiseMeetsTheRoom();
         test.sureWhereTheGainMeetsTheRoom();
         test.sureWhereTheEchoesMeetTheRoom();
+        test.sureOfKnownEchoes();
         test.sureIsCut();
         test.notEvenSureOfOneBit();
         test.sureOfFourBitsAtMost();
@@ -26,6 +27,7 @@ public final class EdgesOfAskingTest {
         test.beatsForTonesThatBecomeShy();
         test.theLeastOfTheBestLessons();
         test.lessonsOfOneAndOfForty();
+        test.lessonsBeforeDoNotCount();
         test.hurtsWithoutBits();
         test.hurtsWithoutAnInsult();
         test.hurtsByOne();
@@ -33,6 +35,9 @@ public final class EdgesOfAskingTest {
         test.hurtsBelowZero();
         test.hurtsBeyondTheBoundOfWhatWaits();
         test.hurtsWhereNoBitIsLeft();
+        test.askingWhatThereIsChangesNothing();
+        test.askingForWaitingBitsChangesNothing();
+        test.askingWhatWouldBeChangesNothing();
         test.theDigestOfANewObject();
         test.theDigestGoesOverAndAround();
         test.theDigestOfEachState();
@@ -126,6 +131,36 @@ public final class EdgesOfAskingTest {
         check.due("the greatest echoes", sureOf(64, 32, 32, 0), 0);
         check.due("the least echoes", sureOf(64, -32, -32, 0), 0);
         check.due("sizes do not make up for each other", sureOf(64, 3, -3, 0), 3);
+    }
+
+    // what counts is how far the accent is from the street, each number from its own
+    private void sureOfKnownEchoes() {
+        for (int by : new int[] {8, -8}) {
+            AccentModems x = new AccentModems();
+            x.set(0, 1);
+            x.learn(1, 1);
+            x.insult(1, 2, by);
+            x.learn(1, 1);
+            // no sign was two before, so that the accent has a first echo alone
+            int one = x.accent(1, 2, 1);
+            check.due("the size of the first echo", Math.abs(one), 8);
+            check.due("second echo", x.accent(1, 2, 2), 0);
+            int gain = x.accent(1, 2, 0);
+            check.due("how far the gain went", Math.abs(gain - 64), 8);
+            x.build(1, 2, 0, gain);
+            // 8 * 256 / 64 + 4 is 36, and the room of 2 bits is 56 or 72, that of 3 bits 28 or 36
+            check.due("an echo that is not there", x.sure(1, 2), 2);
+            x.build(1, 2, 1, one);
+            check.due("an echo that is known", x.sure(1, 2), 4);
+            x.build(1, 2, 1, -one);
+            // 68, and the room of 1 bit is 112 or 144
+            check.due("an echo that is known the wrong way", x.sure(1, 2), gain == 72 ? 2 : 1);
+            x.build(1, 2, 1, 0);
+            x.build(1, 2, 2, one);
+            check.due("the second one instead of the first one", x.sure(1, 2), gain == 72 ? 2 : 1);
+            x.build(1, 2, 1, one);
+            check.due("both", x.sure(1, 2), 2);
+        }
     }
 
     private void sureIsCut() {
@@ -376,6 +411,23 @@ public final class EdgesOfAskingTest {
         check.due("but 40 are the most", best, 39);
     }
 
+    private void lessonsBeforeDoNotCount() {
+        for (int beats = 1; beats <= 8; beats++) {
+            AccentModems x = new AccentModems();
+            x.set(0, 64);
+            x.insult(0, 2, 60);
+            x.insult(1, 2, 60);
+            x.learn(0, beats);
+            check.due("the worst of the lesson before", x.accent(0, 2, 4), 60);
+            check.due("ifLearned", x.ifLearned(0, 1), 32);
+            check.due("bestLesson", x.bestLesson(0), 1);
+            check.due("ifLearned back", x.ifLearned(1, 8), 28 + 1);
+            check.due("bestLesson back", x.bestLesson(1), 9);
+            check.due("ifLearned again", x.ifLearned(0, 1), 32);
+            check.due("bestLesson again", x.bestLesson(0), 1);
+        }
+    }
+
     private static AccentModems slope(int patience, int gain, int margin) {
         AccentModems x = new AccentModems();
         x.set(0, patience);
@@ -509,6 +561,88 @@ public final class EdgesOfAskingTest {
         x.carry(1, 0, 3);
         check.due("one is left: 1000", x.hurts(1, 1), 16);
         check.due("the bits still wait", x.count(3), 4);
+    }
+
+    private interface Asking {
+        void ask(AccentModems x, int way);
+    }
+
+    private void changesNothing(String what, Asking asking) {
+        for (Busy when : Busy.values()) {
+            List<Long> before = Told.by(when.recipe);
+            for (int way = 0; way < 2; way++) {
+                int w = way;
+                check.dueSame("all behind asking for " + what + " when " + when, before, Told.by(() -> {
+                    AccentModems x = when.recipe.get();
+                    asking.ask(x, w);
+                    return x;
+                }));
+            }
+        }
+    }
+
+    private void askingWhatThereIsChangesNothing() {
+        changesNothing("the street", (x, way) -> {
+            for (int i = 0; i < 56; i++) {
+                x.street(way, i % 8, i / 8);
+            }
+        });
+        changesNothing("the accent", (x, way) -> {
+            for (int i = 0; i < 88; i++) {
+                x.accent(way, i % 8, i / 8);
+            }
+        });
+        changesNothing("numbers", (x, way) -> {
+            for (int what = 0; what <= 12; what++) {
+                x.count(what);
+            }
+            for (int setting = 0; setting <= 2; setting++) {
+                x.setting(setting);
+            }
+            x.had(way);
+            x.rightShare(way);
+            x.firstError();
+        });
+    }
+
+    private void askingForWaitingBitsChangesNothing() {
+        changesNothing("the first bits", (x, way) -> {
+            int size = x.count(2 + way);
+            for (int place = 0; place < Math.min(60, size); place++) {
+                x.waits(way, place);
+            }
+        });
+        changesNothing("the last bits", (x, way) -> {
+            int size = x.count(2 + way);
+            for (int place = size - 1; place >= Math.max(0, size - 60); place--) {
+                x.waits(way, place);
+            }
+        });
+    }
+
+    // "what would be; nothing is changed"
+    private void askingWhatWouldBeChangesNothing() {
+        changesNothing("sure and hurts", (x, way) -> {
+            for (int tone = 0; tone < 8; tone++) {
+                x.sure(way, tone);
+                x.hurts(way, tone);
+            }
+        });
+        changesNothing("ifSent", (x, way) -> {
+            for (int beats = 1; beats <= 100; beats += 9) {
+                for (int what = 0; what <= 2; what++) {
+                    x.ifSent(way, beats, what);
+                }
+            }
+        });
+        changesNothing("ifLearned", (x, way) -> {
+            for (int beats = 1; beats <= 100; beats += 9) {
+                x.ifLearned(way, beats);
+            }
+        });
+        changesNothing("beatsFor", (x, way) -> x.beatsFor(way));
+        changesNothing("bestLesson", (x, way) -> x.bestLesson(way));
+        changesNothing("digest", (x, way) -> x.digest());
     }
 
     private void theDigestOfANewObject() {

@@ -25,8 +25,12 @@ public final class EdgesOfLearningTest {
         test.fourBitsAtMost();
         test.notEvenOneBit();
         test.allWrongSignsOfTheWayAreForgotten();
+        test.wrongSignsAreForgottenWithoutBits();
+        test.learningMakesNoToneShy();
+        test.learningSendsNoBits();
         test.takenAmplitudesBecomeTheRealOnes();
         test.forgettingANewAccent();
+        test.forgettingALearnedAccent();
         test.forgettingKeepsWhatIsCounted();
         test.check.end();
     }
@@ -83,7 +87,8 @@ public final class EdgesOfLearningTest {
 
     // "greater by error * A / (128 * setting 0)", cut towards 0
     private void stepsAreCutTowardsZero() {
-        int[][] rows = {{0, 0}, {1, 0}, {7, 0}, {8, 1}, {15, 1}, {16, 2}, {-1, 0}, {-7, 0}, {-8, -1}, {-15, -1}, {-16, -2}};
+        int[][] rows = {
+            {0, 0}, {1, 0}, {7, 0}, {8, 1}, {15, 1}, {16, 2}, {-1, 0}, {-7, 0}, {-8, -1}, {-15, -1}, {-16, -2}};
         for (int[] row : rows) {
             for (int tone = 0; tone < 8; tone++) {
                 AccentModems x = new AccentModems();
@@ -257,7 +262,7 @@ public final class EdgesOfLearningTest {
         int[][] rows = {
             {8, 0, 4}, {8, 7, 4}, {8, 8, 3}, {8, 15, 3}, {8, 16, 2}, {8, 31, 2}, {8, 32, 1}, {8, 63, 1},
             {4, 15, 4}, {4, 16, 3}, {4, 31, 3}, {4, 32, 2}, {4, 63, 2},
-            {16, 3, 4}, {16, 4, 3}, {16, 7, 3}, {16, 8, 2}, {16, 15, 2}, {16, 16, 1}, {16, 31, 1}, {16, 32, 0}, {16, 63, 0},
+            {16, 3, 4}, {16, 4, 3}, {16, 7, 3}, {16, 8, 2}, {16, 15, 2}, {16, 16, 1}, {16, 31, 1}, {16, 32, 0},
             {9, 7, 4}, {9, 8, 3}, {9, 14, 3}, {9, 15, 2}, {9, 28, 2}, {9, 29, 1}, {9, 56, 1}, {9, 57, 0}};
         for (int[] row : rows) {
             for (int by : new int[] {row[1], -row[1]}) {
@@ -377,6 +382,66 @@ public final class EdgesOfLearningTest {
         }
     }
 
+    private void wrongSignsAreForgottenWithoutBits() {
+        AccentModems x = new AccentModems();
+        x.carry(0, 1, 2);
+        x.insult(0, 1, 300);
+        x.send(0, 1);
+        check.due("wrong signs", x.accent(0, 1, 5), 1);
+        x.set(1, 40);
+        x.insult(0, 1, 300);
+        x.learn(0, 1);
+        check.due("no bits", x.accent(0, 1, 3), 0);
+        check.due("forgotten", x.accent(0, 1, 5), 0);
+    }
+
+    // "Behind a beat of sending", not of learning; how often tones became shy stays
+    private void learningMakesNoToneShy() {
+        AccentModems x = new AccentModems();
+        x.carry(0, 1, 2);
+        x.carry(1, 1, 2);
+        for (int i = 0; i < 2; i++) {
+            x.insult(0, 1, 300);
+            x.send(0, 1);
+        }
+        x.set(2, 1);
+        x.learn(1, 3);
+        check.due("the other way's learning", x.accent(0, 1, 6), 0);
+        check.due("bits", x.accent(0, 1, 3), 2);
+        x.learn(0, 3);
+        check.due("its own learning", x.accent(0, 1, 6), 0);
+        check.due("how often all", x.count(10), 0);
+        check.due("bits", x.accent(0, 1, 3), 4);
+        x.insult(0, 1, 300);
+        x.send(0, 1);
+        check.due("shy", x.accent(0, 1, 3), 3);
+        x.learn(0, 1);
+        check.due("as often as before", x.accent(0, 1, 6), 1);
+        check.due("how often all", x.count(10), 1);
+        x.forget(0);
+        check.due("as often as before", x.count(10), 1);
+    }
+
+    // "signs with bits so far", "bits that came": learning takes none of those that wait
+    private void learningSendsNoBits() {
+        AccentModems x = new AccentModems();
+        for (int tone = 0; tone < 8; tone++) {
+            x.carry(0, tone, 4);
+        }
+        Check.say(x, "a:5f");
+        x.learn(0, 100);
+        for (int tone = 0; tone < 8; tone++) {
+            check.due("signs with bits", x.accent(0, tone, 7), 0);
+            check.due("wrong signs", x.accent(0, tone, 8), 0);
+        }
+        check.due("bits that wait", x.count(2), 8);
+        check.due("bits that came", x.count(4), 0);
+        check.due("wrong bits", x.count(6), 0);
+        check.due("had", x.had(0), 0);
+        check.due("beats", x.count(0), 100);
+        check.dueDouble("rightShare", x.rightShare(0), 1.0);
+    }
+
     // "behind each beat of it D1 and D2 are as A1 and A2"
     private void takenAmplitudesBecomeTheRealOnes() {
         AccentModems x = new AccentModems();
@@ -411,6 +476,34 @@ public final class EdgesOfLearningTest {
         check.due("forget the other one", x.forget(0), 0);
         check.due("forget all 32 bits", x.forget(1), 32);
         check.due("forget again", x.forget(1), 0);
+    }
+
+    // "gains 64, echoes 0, no bits, no wrong signs as they count for becoming shy, for all tones of a way"
+    private void forgettingALearnedAccent() {
+        AccentModems x = new AccentModems();
+        x.set(0, 1);
+        for (int way = 0; way < 2; way++) {
+            x.learn(way, 2);
+            for (int tone = 0; tone < 8; tone++) {
+                x.insult(way, tone, 30);
+            }
+            x.learn(way, 1);
+            for (int tone = 0; tone < 8; tone++) {
+                check.due("gain", Math.abs(x.accent(way, tone, 0) - 64), 30);
+                check.due("first echo", Math.abs(x.accent(way, tone, 1)), 30);
+                check.due("second echo", Math.abs(x.accent(way, tone, 2)), 30);
+                check.due("worst", x.accent(way, tone, 4), 30);
+            }
+        }
+        x.forget(1);
+        for (int tone = 0; tone < 8; tone++) {
+            int[] due = {64, 0, 0, 0, -1, 0};
+            for (int what = 0; what <= 5; what++) {
+                check.due("accent(1, " + tone + ", " + what + ")", x.accent(1, tone, what), due[what]);
+            }
+            check.due("the other way's gain", Math.abs(x.accent(0, tone, 0) - 64), 30);
+            check.due("the other way's worst", x.accent(0, tone, 4), 30);
+        }
     }
 
     // "(the last signs, and what is counted so far, stay)"

@@ -14,6 +14,7 @@ public final class EdgesOfSendingTest {
         test.theMiddleBelongsToTheLowerSign();
         test.beyondTheLastSigns();
         test.echoesOfWhatWasTaken();
+        test.whatIsTakenAwayIsCut();
         test.whereNoneIsLeft();
         test.whereSomeAreLeft();
         test.asManyAsThereAre();
@@ -148,6 +149,29 @@ public final class EdgesOfSendingTest {
         }
     }
 
+    // "x = r - (first echo of the accent * D1 + second echo of the accent * D2) / 64", cut towards 0
+    private void whatIsTakenAwayIsCut() {
+        for (int echo = -1; echo <= 1; echo += 2) {
+            for (int by = 0; by <= 70; by++) {
+                AccentModems x = new AccentModems();
+                x.set(0, 1);
+                x.learn(0, 1);
+                x.insult(0, 0, -echo);
+                x.learn(0, 1);
+                x.carry(0, 0, 4);
+                x.send(0, 1);
+                check.due("first echo of the accent", x.accent(0, 0, 1), echo);
+                check.due("second echo of the accent", x.accent(0, 0, 2), 0);
+                check.due("taken for", x.accent(0, 0, 9), -240);
+                x.insult(0, 0, by);
+                x.send(0, 1);
+                // -240 / 64 is -3, and 240 / 64 is 3
+                int y = (-240 + by + 3 * echo) * 64 / x.accent(0, 0, 0);
+                check.due("taken for, by " + by, x.accent(0, 0, 9), y <= -224 ? -240 : y <= -192 ? -208 : -176);
+            }
+        }
+    }
+
     // "where none are left, 0"
     private void whereNoneIsLeft() {
         AccentModems x = new AccentModems();
@@ -223,8 +247,8 @@ public final class EdgesOfSendingTest {
     // "a sign is wrong if one of its bits is"
     private void aSignIsWrongByOneBit() {
         // the sign that is sent, the insult, the wrong bits
-        int[][] rows = {{0, 32, 1}, {0, 64, 1}, {0, 96, 2}, {0, 128, 1}, {0, 300, 2}, {7, 32, 4}, {8, -32, 4}, {15, -32, 1},
-            {5, 0, 0}, {0, 16, 0}, {15, 300, 0}};
+        int[][] rows = {{0, 32, 1}, {0, 64, 1}, {0, 96, 2}, {0, 128, 1}, {0, 300, 2}, {7, 32, 4}, {8, -32, 4},
+            {15, -32, 1}, {5, 0, 0}, {0, 16, 0}, {15, 300, 0}};
         for (int[] row : rows) {
             AccentModems x = new AccentModems();
             x.carry(0, 5, 4);

@@ -15,8 +15,9 @@ public final class EdgesOfTextTest {
             x -> x.build(1, 7, 3, x.street(1, 7, 3)), x -> x.carry(1, 0, x.accent(1, 0, 3)), x -> x.insult(1, 6, 0),
             x -> x.set(1, x.setting(1)));
     private static final List<ToLongFunction<AccentModems>> NOT_UNDOABLE = List.of(
-            x -> x.append('a'), x -> x.clearBuffer(), x -> x.firstError(), x -> x.street(0, 0, 0), x -> x.accent(0, 0, 0),
-            x -> x.waits(0, 0), x -> x.had(0), x -> x.count(0), x -> x.setting(0), x -> x.sure(0, 0),
+            x -> x.append('a'), x -> x.clearBuffer(), x -> x.firstError(), x -> x.street(0, 0, 0),
+            x -> x.accent(0, 0, 0), x -> x.waits(0, 0), x -> x.had(0), x -> x.count(0), x -> x.setting(0),
+            x -> x.sure(0, 0),
             x -> x.ifSent(0, 100, 0), x -> x.ifSent(1, 1, 1), x -> x.ifSent(0, 7, 2), x -> x.ifLearned(0, 100),
             x -> x.beatsFor(0), x -> x.beatsFor(1), x -> x.bestLesson(0), x -> x.hurts(0, 0), x -> x.hurts(1, 7),
             x -> (long) x.rightShare(0), x -> x.digest());

@@ -86,13 +86,14 @@ public final class RefusedTest {
 
     // "IllegalStateException if it would be below -1000 or above 1000"
     private void insultBeyondAThousand() {
-        int[][] rows = {{1000, 1}, {1000, 300}, {999, 2}, {800, 201}, {701, 300}, {-1000, -1}, {-1000, -300}, {-999, -2},
-            {-800, -201}, {-701, -300}};
+        int[][] rows = {{1000, 1}, {1000, 300}, {999, 2}, {800, 201}, {701, 300}, {-1000, -1}, {-1000, -300},
+            {-999, -2}, {-800, -201}, {-701, -300}};
         for (int[] row : rows) {
             check.dueRefused("insult by " + row[1] + " where " + row[0] + " waits", STATE, insulted(1, 7, row[0]),
                     x -> x.insult(1, 7, row[1]));
         }
-        int[][] fine = {{1000, 0}, {999, 1}, {700, 300}, {1000, -300}, {-1000, 0}, {-999, -1}, {-700, -300}, {-1000, 300}};
+        int[][] fine = {{1000, 0}, {999, 1}, {700, 300}, {1000, -300}, {-1000, 0}, {-999, -1}, {-700, -300},
+            {-1000, 300}};
         for (int[] row : fine) {
             AccentModems x = insulted(0, 0, row[0]).get();
             check.due("insult by " + row[1] + " where " + row[0] + " waits", x.insult(0, 0, row[1]), row[0] + row[1]);
@@ -292,9 +293,9 @@ public final class RefusedTest {
 
     // "IllegalArgumentException if the buffer is not a complete row of messages"
     private void sayWhatIsNotComplete() {
-        String[] texts = {"", "a", "b", "a:", "b:", "a:0;", "a:0;b", "a:0;b:", "a:0;b:1;", ";", ":", "0", "a:;b:1", "a:g",
-            "a:0 b:1".replace(' ', ','), "c:0", "A:0", "a:F", "a:0;;b:1", "a:0b:1", "a:0;b:1x", "!", "~", "a::0", "aa:0",
-            "a:" + "0".repeat(57) + ";", "a:0;".repeat(15), "a:0;".repeat(14) + "b:;0", "x".repeat(60)};
+        String[] texts = {"", "a", "b", "a:", "b:", "a:0;", "a:0;b", "a:0;b:", "a:0;b:1;", ";", ":", "0", "a:;b:1",
+            "a:g", "a:0,b:1", "c:0", "A:0", "a:F", "a:0;;b:1", "a:0b:1", "a:0;b:1x", "!", "~", "a::0",
+            "aa:0", "a:" + "0".repeat(57) + ";", "a:0;".repeat(15), "a:0;".repeat(14) + "b:;0", "x".repeat(60)};
         for (String text : texts) {
             for (Busy busy : new Busy[] {Busy.FRESH, Busy.BUSY, Busy.FEW}) {
                 check.dueRefused("say " + text, ARGUMENT, with(busy, text), x -> x.say());
@@ -351,8 +352,8 @@ public final class RefusedTest {
     }
 
     private void notCompleteIsNamedBeforeTooManyBits() {
-        String[] texts = {"", "a:0;", "a:" + "1".repeat(57) + ";", "a:" + "1".repeat(57) + "g", "b:" + "1".repeat(20) + ";a",
-            "a:123;b:", "c:" + "1".repeat(58), "a:1;;b:1"};
+        String[] texts = {"", "a:0;", "a:" + "1".repeat(57) + ";", "a:" + "1".repeat(57) + "g",
+            "b:" + "1".repeat(20) + ";a", "a:123;b:", "c:" + "1".repeat(58), "a:1;;b:1"};
         for (String text : texts) {
             check.dueRefused("say " + text, ARGUMENT, with(Busy.FULL, text), x -> x.say());
         }
